@@ -1,0 +1,43 @@
+/** Counts answers, prints those that are not the ones due, and ends the test. */
+final class Due {
+    /** One call of the face. */
+    interface Call {
+        int run();
+    }
+
+    private final String title;
+    private int rows = 0;
+    private int wrong = 0;
+
+    Due(String title) {
+        this.title = title;
+    }
+
+    void answer(String call, Object got, Object want) {
+        rows++;
+        if (!got.equals(want)) {
+            wrong++;
+            System.out.println(title + ": " + call + " answered " + got + ", due is " + want);
+        }
+    }
+
+    void refusal(String call, String want, Call run) {
+        answer(call, outcome(run), want);
+    }
+
+    /** The answer, or the name of the very exception that came, so that none above or below it passes for it. */
+    static String outcome(Call run) {
+        try {
+            return Integer.toString(run.run());
+        } catch (RuntimeException e) {
+            return e.getClass().getSimpleName();
+        }
+    }
+
+    void end() {
+        System.out.println(title + ": " + rows + " answers, " + wrong + " not as due");
+        if (wrong != 0) {
+            System.exit(1);
+        }
+    }
+}
