@@ -32,9 +32,6 @@ public final class PackedNumbers {
     public int push(int r, int v) throws IndexOutOfBoundsException, UnsupportedOperationException {
         needRegister(r);
         store.read(r, first);
-        if (first.count > 0) {
-            needLength(first.bits() + LIMB_BITS);
-        }
         first.putBelow(v);
         return keep(r, first);
     }
@@ -79,7 +76,7 @@ public final class PackedNumbers {
         needRegister(to);
         needRegisters(a, b);
         readBoth(a, b);
-        // Only the outcome is limited; but what is there can take no more than one bit from a longer product.
+        // Only the outcome is limited, but of a product of 20002 bits or more what is there never leaves 20000.
         needLength(leastProductBits() - 1);
         third.becomeProduct(first, second);
         store.read(to, first);
@@ -352,6 +349,12 @@ public final class PackedNumbers {
             below = false;
         }
 
+        private void clear(int from, int to) {
+            for (int i = from; i < to; i++) {
+                limbs[i] = 0;
+            }
+        }
+
         private void turnBelowIf(boolean wanted) {
             below = wanted && count > 0;
         }
@@ -434,9 +437,7 @@ public final class PackedNumbers {
 
         private void becomeProduct(Row a, Row b) {
             int n = a.count + b.count;
-            for (int i = 0; i < n; i++) {
-                limbs[i] = 0;
-            }
+            clear(0, n);
             for (int i = 0; i < a.count; i++) {
                 limbs[i + b.count] = addMultiple(b, a.limbs[i] & LIMB_MASK, i);
             }
@@ -568,7 +569,7 @@ public final class PackedNumbers {
             return limb;
         }
 
-        // Answers whether more was taken than was there.
+        // Answers whether more was taken than was there. The highest limb is not read again and so not written.
         private static boolean takeMultiple(int[] limbs, int at, Row divisor, long factor) {
             long carry = 0;
             for (int i = 0; i < divisor.count; i++) {
@@ -577,10 +578,7 @@ public final class PackedNumbers {
                 limbs[at + i] = (int) left;
                 carry = (carry >>> LIMB_BITS) + (left < 0 ? 1 : 0);
             }
-            int top = at + divisor.count;
-            long left = (limbs[top] & LIMB_MASK) - carry;
-            limbs[top] = (int) left;
-            return left < 0;
+            return (limbs[at + divisor.count] & LIMB_MASK) < carry;
         }
 
         private static void putBack(int[] limbs, int at, Row divisor) {
@@ -590,7 +588,6 @@ public final class PackedNumbers {
                 limbs[at + i] = (int) carry;
                 carry >>>= LIMB_BITS;
             }
-            limbs[at + divisor.count] += (int) carry;
         }
 
         // The dividend is read without a sign; the divisor is one limb.
@@ -677,11 +674,12 @@ public final class PackedNumbers {
 
         private void follow(Row greater, Row smaller) {
             int n = greater.count;
+            smaller.clear(smaller.count, n);
             long carryX = 0;
             long carryY = 0;
             for (int i = 0; i < n; i++) {
                 long x = greater.limbs[i] & LIMB_MASK;
-                long y = smaller.limbAt(i);
+                long y = smaller.limbs[i] & LIMB_MASK;
                 carryX += a * x + b * y;
                 carryY += c * x + d * y;
                 greater.limbs[i] = (int) carryX;
