@@ -1,3 +1,6 @@
+import java.util.LinkedHashSet;
+import java.util.Set;
+
 /** Counts answers, prints those that are not the ones due, and ends the test. */
 final class Due {
     /** One call of the face. */
@@ -6,6 +9,8 @@ final class Due {
     }
 
     private final String title;
+    private final Set<String> sentences = new LinkedHashSet<>();
+    private String sentence = "";
     private int rows = 0;
     private int wrong = 0;
 
@@ -13,11 +18,22 @@ final class Due {
         this.title = title;
     }
 
+    /** What comes next holds this sentence, which stands under this heading of the document. */
+    void sentence(String heading, String words) {
+        sentence = heading + " | " + words;
+        sentences.add(sentence);
+    }
+
+    Set<String> sentences() {
+        return sentences;
+    }
+
     void answer(String call, Object got, Object want) {
         rows++;
         if (!got.equals(want)) {
             wrong++;
-            System.out.println(title + ": " + call + " answered " + got + ", due is " + want);
+            String held = sentence.isEmpty() ? "" : " [" + sentence + "]";
+            System.out.println(title + held + ": " + call + " answered " + got + ", due is " + want);
         }
     }
 

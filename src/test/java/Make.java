@@ -1,3 +1,5 @@
+import java.math.BigInteger;
+
 /** Numbers made, and read, by few calls: an object has but 512 of them. */
 final class Make {
     static final int[] PRIMES = {2147483647, 2147483629, 1000003};
@@ -39,6 +41,15 @@ final class Make {
         mark.append(x.sign(r)).append('/').append(x.length(r));
         for (int p : PRIMES) {
             mark.append('/').append(x.rest(r, p));
+        }
+        return mark.toString();
+    }
+
+    static String mark(BigInteger v) {
+        StringBuilder mark = new StringBuilder();
+        mark.append(v.signum()).append('/').append(v.abs().bitLength());
+        for (int p : PRIMES) {
+            mark.append('/').append(v.mod(BigInteger.valueOf(p)));
         }
         return mark.toString();
     }

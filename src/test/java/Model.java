@@ -151,6 +151,10 @@ final class Model {
         return printed.length();
     }
 
+    String printed() {
+        return printed;
+    }
+
     int character(int i) {
         return i < 0 || i >= printed.length() ? -1 : printed.charAt(i);
     }
