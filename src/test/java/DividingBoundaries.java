@@ -9,6 +9,7 @@ final class DividingBoundaries {
     private static final String LEAST = Run.LEAST;
     private static final String[] DIVISORS = {"1", "2", "3", "2^31", "2^32-1", "2^32", "2^32+1", "2^63", "2^64-1", "2^64",
         "2^64+1", "2^95+2^64-1", "2^96-2^32", "2^96-1", "2^9984-1", "2^9984", "2^9984+1"};
+    private static final int[] ENDS = {0, 1, Integer.MAX_VALUE, Integer.MIN_VALUE, -2, -1};
     private static final String[] NEXT_TO_A_LIMB = {"2^32-1", "2^32", "2^32+1", "2^64-1", "2^64", "2^64+1"};
 
     private final Due due;
@@ -22,6 +23,7 @@ final class DividingBoundaries {
         all.divideSmall();
         all.divideLongest();
         all.divideNextToALimb();
+        all.divideLimbsAtTheEnds();
         all.divideRefuses();
         all.exactMakes();
         all.exactNextToALimb();
@@ -31,6 +33,7 @@ final class DividingBoundaries {
         all.nearestLongest();
         all.nearestRefuses();
         all.gcdMakes();
+        all.gcdOfManySteps();
         all.gcdRefuses();
     }
 
@@ -95,6 +98,33 @@ final class DividingBoundaries {
                 }
             }
         }
+    }
+
+    /** Limbs at the ends of their range, for which the next limb of a quotient is easily guessed too great. */
+    private void divideLimbsAtTheEnds() {
+        due.sentence("Promise 11: divide", DOWN);
+        for (int high : new int[] {1, 0x20000000, Integer.MAX_VALUE, Integer.MIN_VALUE, -2, -1}) {
+            for (int low : ENDS) {
+                for (int highest : ENDS) {
+                    divideLimbs(high + " " + low, highest, "");
+                    divideLimbs(high + " 0 " + low, highest, " 3");
+                }
+            }
+        }
+    }
+
+    private void divideLimbs(String divisor, int highest, String lowest) {
+        Run run = run(pushed(0, divisor));
+        for (int next : ENDS) {
+            for (int third : ENDS) {
+                run.rows("set 1 0").rows(pushed(1, highest + " " + next + " " + third + lowest)).rows("divide 2 3 1 0",
+                    "rest 2 2147483629", "rest 3 2147483629", "length 3", "limb 2 0", "limb 3 0");
+            }
+        }
+    }
+
+    private static String[] pushed(int r, String limbs) {
+        return limbs.replaceAll("(\\S+)", "push " + r + " $1;").split("; ?");
     }
 
     private void divideRefuses() {
@@ -253,6 +283,33 @@ final class DividingBoundaries {
             "value 2 = 2^5000-1", "make 3 2^10000-1", "gcd 2 3 0 = 10000", "value 2 = 2^10000-1", "make 4 2^19999-1",
             "gcd 2 0 4 = 1", "value 2 = 1", "set 5 2147483647", "gcd 2 0 5", "make 6 2^64-1", "gcd 2 6 0 = 32",
             "value 2 = 2^32-1");
+    }
+
+    /** Neighbours in Fibonacci's row, times the same: the most steps, up to the greatest length. */
+    private void gcdOfManySteps() {
+        due.sentence("Promise 14: gcd", "The greatest common divisor, not below 0; 0 of 0 and 0.");
+        for (int place : new int[] {2, 3, 45, 46, 47, 91, 92, 93, 94, 140, 500, 14000, 28000}) {
+            Run run = run("set 1 1");
+            for (int bit = 31 - Integer.numberOfLeadingZeros(place); bit >= 0; bit--) {
+                // From F(n), F(n + 1) to F(2n), F(2n + 1), and a step further where the place's bit is set.
+                run.rows("add 2 1 1", "subtract 2 2 0", "multiply 2 2 0", "multiply 0 0 0", "addProduct 0 1 1 false",
+                    "swap 0 1", "copy 0 2");
+                if ((place >> bit & 1) == 1) {
+                    run.rows("add 0 0 1", "swap 0 1");
+                }
+            }
+            run.rows("gcd 3 0 1 = 1", "value 3 = 1", "gcd 3 1 0 = 1", "set 4 -4294967295", "multiply 0 0 4", "multiply 1 1 4",
+                "gcd 3 0 1 = 32", "value 3 = 2^32-1", "negate 0", "gcd 3 1 0 = 32", "value 3 = 2^32-1");
+            if (place < 28000) {
+                // A great first step before the many small ones.
+                for (long step : new long[] {1000, 1 << 20, 1 << 30, Integer.MAX_VALUE, 1L << 31, 4294967295L, 1L << 32,
+                    1L << 40, 1L << 61, 1L << 62, Long.MAX_VALUE}) {
+                    run.rows("set 5 " + step, "multiply 5 5 1", "add 5 5 0", "gcd 3 5 1 = 32", "gcd 3 1 5 = 32",
+                        "value 3 = 2^32-1");
+                }
+            }
+            run.rows("gcd 0 0 1 = 32", "value 0 = 2^32-1");
+        }
     }
 
     private void gcdRefuses() {

@@ -8,6 +8,8 @@ final class Due {
         int run();
     }
 
+    private static final int MOST_TOLD = 200;
+
     private final String title;
     private final Set<String> sentences = new LinkedHashSet<>();
     private String sentence = "";
@@ -32,6 +34,10 @@ final class Due {
         rows++;
         if (!got.equals(want)) {
             wrong++;
+            // A fault in what everything is built on makes all rows wrong; the first ones tell it.
+            if (wrong > MOST_TOLD) {
+                return;
+            }
             String held = sentence.isEmpty() ? "" : " [" + sentence + "]";
             System.out.println(title + held + ": " + call + " answered " + got + ", due is " + want);
         }

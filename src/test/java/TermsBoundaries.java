@@ -26,6 +26,7 @@ final class TermsBoundaries {
         all.lengthsAnswered();
         all.sameRegisterShort();
         all.sameRegisterLong();
+        all.callAfterCall();
         all.refusedWhenFull();
         all.firstNamedException();
         all.noSuchRegister();
@@ -54,8 +55,8 @@ final class TermsBoundaries {
             run("set 0 12", "set 23 4", call + " 23 0 23" + away(call)).values(0, 23, 22)
                 .rows("set 23 4", call + " 0 0 23" + away(call)).values(0, 23, 1);
         }
-        run("set 0 17", "set 23 5", "divide 23 0 0 23 = 2", "value 23 = 3", "value 0 = 2", "divide 0 23 23 0 = 1", "value 0 = 1",
-            "value 23 = 1", "push 23 4", "push 0 4", "swap 0 23", "copy 0 23", "negate 23", "compare 0 23 = 1",
+        run("set 0 17", "set 23 5", "divide 23 0 0 23 = 2", "value 23 = 3", "value 0 = 2", "divide 0 23 23 0 = 1",
+            "value 0 = 1", "value 23 = 1", "push 23 4", "push 0 4", "swap 0 23", "copy 0 23", "negate 23", "compare 0 23 = 1",
             "compare 23 0 = -1", "limb 23 1 = 1", "limb 0 0 = 4", "print 23 = 11", "rest 23 5 = 0");
     }
 
@@ -132,6 +133,33 @@ final class TermsBoundaries {
                         run(made).rows("divide " + to + " " + r + " " + a + " " + b).values(0, 1, 2);
                     }
                 }
+            }
+        }
+    }
+
+    /** Nothing but registers is taken: a short call after one whose numbers were long and below 0, or refused. */
+    private void callAfterCall() {
+        due.sentence("Terms", BEFORE);
+        String[] firstCalls = {"set 12 -9223372036854775808", "push 11 -1", "copy 12 10", "swap 14 10", "negate 10",
+            "add 12 10 9", "subtract 12 9 14", "multiply 12 10 13", "addProduct 12 10 13 false", "addProduct 12 14 13 true",
+            "divide 12 15 10 11", "divide 12 15 10 16", "divide 12 15 17 10", "exact 12 10 13", "nearest 12 10 16",
+            "gcd 12 10 9", "gcd 12 10 11", "compare 10 14", "limb 10 624", "rest 10 7", "print 10", "add 12 10 10" + LONGER,
+            "push 10 1" + LONGER, "addProduct 10 14 13 true" + LONGER, "exact 12 10 16" + ARITHMETIC};
+        // Register 0 is 7, 1 is 3, 2 is 0.
+        String[] thenCalls = {"set 3 5 = 3", "push 3 1 = 35", "copy 3 0 = 3", "negate 3 = 3", "swap 3 4", "add 3 0 1 = 4",
+            "add 3 0 2 = 3", "subtract 3 1 0 = 3", "subtract 3 0 0 = 0", "multiply 3 0 1 = 5", "multiply 3 2 0 = 0",
+            "addProduct 3 0 1 true = 5", "divide 3 4 0 1 = 2", "divide 3 4 1 0 = 0", "divide 3 4 2 1 = 0",
+            "exact 3 0 13 = 3", "exact 3 2 0 = 0", "nearest 3 0 1 = 2", "nearest 3 1 0 = 0", "gcd 3 0 1 = 1",
+            "gcd 3 0 2 = 3", "compare 0 1 = 1", "sign 0 = 1", "length 0 = 3", "limb 0 1 = 0", "rest 0 5 = 2", "print 0 = 1",
+            "print 2 = 1"};
+        for (String firstCall : firstCalls) {
+            Run run = null;
+            for (int i = 0; i < thenCalls.length; i++) {
+                if (i % 7 == 0) {
+                    run = run("make 10 " + LEAST, "make 11 2^10000-2^64", "set 13 1", "copy 14 10", "negate 14", "set 16 2",
+                        "set 17 -1", "set 0 7", "set 1 3");
+                }
+                run.rows("set 3 5", "set 12 0", firstCall, thenCalls[i]).values(3, 4);
             }
         }
     }
@@ -222,6 +250,9 @@ final class TermsBoundaries {
             run.rows("set " + r + " " + random.nextInt(100), "addProduct " + r + " 0 " + r + " " + random.nextBoolean(),
                 "add " + r + " " + r + " 0");
         }
+        if (call.equals("divide")) {
+            run.rows("make 21 2^9990+3", "copy 22 0", "copy 23 1");
+        }
         String[] kinds = {"copy", "push", "add", "subtract", "multiply", "addProduct", "divide", "exact", "nearest", "gcd",
             "negate", "swap"};
         while (run.left() > LOOK + 12) {
@@ -242,35 +273,55 @@ final class TermsBoundaries {
             case "push" -> run.rows("copy " + to + " 0", "push " + to + " " + random.nextInt());
             case "add", "subtract" -> run.rows(kind + three);
             case "gcd" -> run.rows("gcd " + to + " " + a + " 0");
-            case "divide" -> run.rows("set 23 " + (2 + random.nextInt(1000)),
-                "divide " + Math.min(to, 22) + " 23 " + (random.nextBoolean() ? 0 : a) + " 23", "copy 23 0");
+            case "divide" -> divide(run, to % 20 + 1, a, random);
             default -> run.rows("set " + to + " " + (1 + random.nextInt(3)),
                 kind + " " + to + " " + (kind.equals("exact") || random.nextBoolean() ? 0 : a) + " " + to
                     + (kind.equals("addProduct") ? " " + random.nextBoolean() : ""));
         }
-        if (run.at(to).bitLength() < 10000) {
+        if (run.at(to).bitLength() < 9000) {
             run.rows("copy " + to + " 0");
         }
     }
 
-    /** The array full in the middle of set and of push: the longest numbers everywhere, then small ones. */
+    /** By a short number or, where register 21 is kept for it, by a long one, so that what is left is long too. */
+    private void divide(Run run, int q, int a, Random random) {
+        if (run.at(21).bitLength() < 10000 && random.nextBoolean()) {
+            run.rows("divide " + q + " 22 " + a + " 21", "divide 22 " + q + " 0 21");
+        } else {
+            run.rows("set 22 " + (2 + random.nextInt(1000)), "divide " + q + " 22 " + (random.nextBoolean() ? 0 : a) + " 22",
+                "copy 22 0");
+        }
+    }
+
+    /**
+     * The array full in the middle of set, and of push on a short number: the longest numbers everywhere, some of
+     * them made once more so that there is room for ever fewer, and then small ones.
+     */
     private void fullBySmallNumbers() {
         due.sentence("What it is", PACKED);
-        for (String call : new String[] {"set", "push"}) {
-            Run run = run("make 0 " + MOST);
-            for (int r = 1; r < 24; r++) {
-                run.rows("copy " + r + " 0");
+        for (int again = 0; again < 8; again++) {
+            Run set = longestEverywhere(again);
+            for (int turn = 0; set.left() > LOOK; turn++) {
+                set.rows("set " + (turn % 2 == 0 ? 5 : 17) + " " + (Long.MIN_VALUE + turn) + (turn == 0 ? " = 64" : " = 63"));
             }
-            for (int turn = 0; run.left() > LOOK + 2; turn++) {
-                if (call.equals("set") || turn == 0) {
-                    run.rows("set " + (turn % 2 == 0 ? 5 : 17) + " " + (Long.MIN_VALUE + turn));
-                } else {
-                    run.rows("push 5 " + -turn, turn % 16 == 0 ? "copy 5 9" : "limb 0 0 = -1",
-                        turn % 16 == 0 ? "set 5 -1" : "limb 23 624 = -1");
-                }
+            set.everything();
+            Run push = longestEverywhere(again).rows("set 5 -1");
+            for (int limbs = 1; push.left() > LOOK + 1; limbs = limbs % 8 + 1) {
+                push.rows(limbs == 1 ? "set 5 -1 = 1" : "push 5 " + -limbs + " = " + (32 * limbs - 31));
             }
-            run.everything();
+            push.everything();
         }
+    }
+
+    private Run longestEverywhere(int again) {
+        Run run = run("make 0 " + MOST);
+        for (int r = 1; r < 24; r++) {
+            run.rows("copy " + r + " 0 = 20000");
+        }
+        for (int r = 1; r <= again; r++) {
+            run.rows("copy " + r + " 23 = 20000");
+        }
+        return run;
     }
 
     private void lastOf512Calls() {
