@@ -1,10 +1,15 @@
+import java.io.IOException;
 import java.lang.reflect.Constructor;
 import java.lang.reflect.Field;
 import java.lang.reflect.Method;
 import java.lang.reflect.Modifier;
+import java.nio.file.Files;
+import java.nio.file.Path;
 import java.util.Arrays;
 import java.util.Set;
 import java.util.TreeSet;
+import java.util.regex.Matcher;
+import java.util.regex.Pattern;
 import java.util.stream.Collectors;
 
 /** What can be seen of the class is the document's face, to the word, and nothing else. */
@@ -33,11 +38,13 @@ public final class FaceTest {
         "int print(int)" + INDEX,
         "int character(int)",
     };
+    private static final Path DOCUMENT = Path.of("../shared/DOC.md");
+    private static final Pattern SIGNATURE = Pattern.compile("int \\w+\\([^)]*\\)[^;`\n]*");
 
     private FaceTest() {
     }
 
-    public static void main(String[] args) {
+    public static void main(String[] args) throws IOException {
         Due due = new Due("FaceTest");
         Class<PackedNumbers> face = PackedNumbers.class;
         due.answer("the class", Modifier.toString(face.getModifiers()), "public final");
@@ -73,7 +80,39 @@ public final class FaceTest {
             due.answer(inside.getName() + " is static and not open", Modifier.isStatic(modifiers)
                 && !Modifier.isPublic(modifiers) && !Modifier.isProtected(modifiers), true);
         }
+        compareDocument(due);
         due.end();
+    }
+
+    /** What is written above stands in the document, under its face and once more before each promise. */
+    private static void compareDocument(Due due) throws IOException {
+        if (!Files.exists(DOCUMENT)) {
+            System.out.println("FaceTest: " + DOCUMENT + " is not there, so its face is not compared");
+            return;
+        }
+        String[] parts = Files.readString(DOCUMENT).split("(?m)^## ");
+        for (String part : parts) {
+            if (part.startsWith("The public face")) {
+                due.answer("the document's face", signatures(part), new TreeSet<>(Arrays.asList(METHODS)));
+            }
+        }
+        Set<String> promised = new TreeSet<>();
+        for (String part : parts) {
+            if (part.startsWith("Promise ")) {
+                promised.addAll(signatures(part));
+            }
+        }
+        due.answer("the promises' signatures", promised, new TreeSet<>(Arrays.asList(METHODS)));
+    }
+
+    private static Set<String> signatures(String part) {
+        Set<String> signatures = new TreeSet<>();
+        Matcher signature = SIGNATURE.matcher(part);
+        while (signature.find()) {
+            // Without the names of the parameters, which are no part of what is seen.
+            signatures.add(signature.group().replaceAll("(int|long|boolean) \\w+(?=[,)])", "$1"));
+        }
+        return signatures;
     }
 
     private static String written(Method method) {

@@ -302,7 +302,7 @@ final class MakingBoundaries {
             "addProduct 1 0 2 false = 20000", "compare 1 0 = 0", "set 2 -2", "addProduct 1 2 0 false = 20000",
             "value 1 = -2^20000+1", "addProduct 1 2 0 true = 20000", "addProduct 0 0 2 false = 20000",
             "value 0 = -2^20000+1", "set 2 1", "addProduct 0 0 2 true = 0", "value 0 = 0");
-        // 7 times this is 2^20001 - 1, the longest product of which something may be left that fits.
+        // 7 times this is 2^20001 - 1, one more than twice the greatest number: what is left of it is too long by one.
         run("make 0 2^19998-1", "set 1 7", "exact 0 0 1", "set 2 8", "multiply 0 0 2", "set 2 1", "add 0 0 2 = 19999",
             "make 3 " + MOST, "addProduct 3 0 1 true" + LONGER, "negate 3", "addProduct 3 0 1 false" + LONGER,
             "addProduct 3 0 1 true" + LONGER);
